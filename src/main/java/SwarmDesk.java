@@ -853,14 +853,16 @@ public final class SwarmDesk {
             if (!bencode.isKind(info, 'd')) {
                 return 2;
             }
-            if (!isName(bencode.find(info, "name"))) {
+            if (!isWithin(bencode.textLength(bencode.find(info, "name")), 1, MOST_NAME)) {
                 return 3;
             }
             draft.pieceLength = bencode.numberAt(bencode.find(info, "piece length"));
             if (!isWithin(draft.pieceLength, LEAST_PIECE_LENGTH, MOST_PIECE_LENGTH)) {
                 return 4;
             }
-            if (!readLengths(bencode.find(info, "length"), bencode.find(info, "files"))) {
+            int length = bencode.find(info, "length");
+            int files = bencode.find(info, "files");
+            if ((length == NONE) == (files == NONE) || !(files == NONE ? readLength(length) : readFiles(files))) {
                 return 5;
             }
             if (!readPieces(source, bencode.find(info, "pieces"))) {
@@ -872,21 +874,9 @@ public final class SwarmDesk {
             return 0;
         }
 
-        private boolean isName(int at) {
-            return isWithin(bencode.textLength(at), 1, MOST_NAME);
-        }
-
-        private boolean readLengths(int length, int files) {
-            if ((length == NONE) == (files == NONE)) {
-                return false;
-            }
+        private boolean readLength(int length) {
             draft.files = 0;
-            draft.length = 0;
-            if (length != NONE) {
-                draft.length = bencode.numberAt(length);
-            } else if (!readFiles(files)) {
-                return false;
-            }
+            draft.length = bencode.numberAt(length);
             return isWithin(draft.length, 1, MOST_CONTENT);
         }
 
@@ -894,6 +884,8 @@ public final class SwarmDesk {
             if (!bencode.isKind(files, 'l')) {
                 return false;
             }
+            draft.files = 0;
+            draft.length = 0;
             int at = files + 1;
             for (int k = 0; k < MOST_FILES && !bencode.isKind(at, 'e'); k++) {
                 int length = bencode.numberAt(bencode.find(at, "length"));
@@ -908,7 +900,7 @@ public final class SwarmDesk {
                 draft.files = k + 1;
                 at = bencode.endOf(at);
             }
-            return draft.files > 0 && bencode.isKind(at, 'e');
+            return bencode.isKind(at, 'e') && isWithin(draft.length, 1, MOST_CONTENT);
         }
 
         /** How many STRINGS that path has; NONE if it is none. */
@@ -918,7 +910,7 @@ public final class SwarmDesk {
             }
             int at = path + 1;
             int count = 0;
-            while (count < MOST_PATH && isName(at)) {
+            while (count < MOST_PATH && isWithin(bencode.textLength(at), 1, MOST_NAME)) {
                 at = bencode.endOf(at);
                 count++;
             }
