@@ -527,7 +527,7 @@ public final class SwarmDesk {
 
         private void mix() {
             for (int t = 16; t < 80; t++) {
-                words[t] = Integer.rotateLeft(words[t - 3] ^ words[t - 8] ^ words[t - 14] ^ words[t - 16], 1);
+                words[t] = turn(words[t - 3] ^ words[t - 8] ^ words[t - 14] ^ words[t - 16], 1);
             }
             int a = sum[0];
             int b = sum[1];
@@ -535,10 +535,10 @@ public final class SwarmDesk {
             int d = sum[3];
             int e = sum[4];
             for (int t = 0; t < 80; t++) {
-                int next = Integer.rotateLeft(a, 5) + blend(t, b, c, d) + e + words[t];
+                int next = turn(a, 5) + blend(t, b, c, d) + e + words[t];
                 e = d;
                 d = c;
-                c = Integer.rotateLeft(b, 30);
+                c = turn(b, 30);
                 b = a;
                 a = next;
             }
@@ -547,6 +547,10 @@ public final class SwarmDesk {
             sum[2] += c;
             sum[3] += d;
             sum[4] += e;
+        }
+
+        private static int turn(int word, int bits) {
+            return word << bits | word >>> 32 - bits;
         }
 
         private static int blend(int t, int b, int c, int d) {
@@ -1404,12 +1408,20 @@ public final class SwarmDesk {
                 if (p == NONE) {
                     return;
                 }
-                int block = Integer.numberOfTrailingZeros(~busy[p]);
+                int block = firstFree(busy[p]);
                 busy[p] |= 1 << block;
                 link.addAsked(CODES * p + block);
                 noteRequest(p, BLOCK * block, net.torrent.blockSize(p, block));
                 net.send(link, note);
             }
+        }
+
+        private static int firstFree(int blocks) {
+            int block = 0;
+            while (block < CODES && (blocks >> block & 1) != 0) {
+                block++;
+            }
+            return block;
         }
 
         private void lookWhatIsBusy(Client client, int a) {
@@ -1471,10 +1483,12 @@ public final class SwarmDesk {
             note.cut(0);
             note.addNumber(1 + bytes);
             note.add(BITFIELD);
-            // Reversed, the least piece's bit stands highest, as on the wire.
-            long bits = Long.reverse(has);
-            for (int i = 0; i < bytes; i++) {
-                note.add((int) (bits >>> 56 - 8 * i));
+            int bits = 0;
+            for (int p = 0; p < 8 * bytes; p++) {
+                bits = bits << 1 | (int) (has >>> p & 1);
+                if (p % 8 == 7) {
+                    note.add(bits);
+                }
             }
         }
 

@@ -5,6 +5,7 @@ public final class ClientsTest {
     public static void main(String[] args) {
         client();
         begunAnew();
+        metainfoAgain();
         connect();
         hello();
         close();
@@ -45,6 +46,18 @@ public final class ClientsTest {
         SwarmDesk big = Check.made(Check.content(2048), 32);
         big.client(2, true);
         Check.same("all of 64 pieces", big.count(2, 0), 64);
+        byte[] most = Check.content(4096);
+        SwarmDesk full = Check.made(most, 64);
+        full.client(0, true);
+        full.client(1, false);
+        Check.same("the last byte of 4096", full.disk(0, 4095), most[4095] & 255);
+        Check.same("the last byte of 4096, with nothing", full.disk(1, 4095), 0);
+        Check.same("behind it", full.disk(1, 4096), -1);
+        full.connect(0, 1);
+        // Two hellos, bitfield, interested, unchoke; request, piece and have of each; not interested, choke.
+        Check.same("it all came, in so many acts", full.pump(2000), 2 + 3 + 3 * 64 + 2);
+        Check.same("all of it", full.count(1, 0), 64);
+        Check.same("the last byte came", full.disk(1, 4095), most[4095] & 255);
     }
 
     private static void begunAnew() {
@@ -81,6 +94,24 @@ public final class ClientsTest {
         desk.client(0, true);
         Check.same("sent is 0 then", desk.count(0, 2), 0);
         brokenReason();
+    }
+
+    /** Each new METAINFO has sums of its own, however many there were. */
+    private static void metainfoAgain() {
+        SwarmDesk desk = new SwarmDesk();
+        for (int n = 0; n < 5; n++) {
+            byte[] content = Check.content(90 + 40 * n);
+            content[0] = (byte) n;
+            Check.tape(desk, content);
+            desk.make(32 + n);
+            desk.client(0, true);
+            desk.client(1, false);
+            desk.connect(0, 1);
+            desk.pump(2000);
+            Check.same("all came", desk.count(1, 0), desk.torrent(2));
+            Check.same("none failed", desk.count(1, 3), 0);
+            Check.same("the last byte", desk.disk(1, content.length - 1), content[content.length - 1] & 255);
+        }
     }
 
     private static void brokenReason() {
