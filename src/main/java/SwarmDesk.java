@@ -362,16 +362,15 @@ public final class SwarmDesk {
     }
 
     /**
-     * A row of bytes with a limit. Its array grows only when it must, so that a desk whose wires
-     * are never used costs next to nothing.
+     * A row of bytes with a limit. Its array is made once, as long as the limit, so that no call
+     * ever makes another one.
      */
     private static final class Row {
-        private final int most;
-        private byte[] bytes = new byte[0];
+        private final byte[] bytes;
         private int length = 0;
 
         Row(int most) {
-            this.most = most;
+            bytes = new byte[Math.max(0, most)];
         }
 
         int size() {
@@ -400,7 +399,7 @@ public final class SwarmDesk {
         }
 
         boolean fits(int n) {
-            return n >= 0 && n <= most - length;
+            return n >= 0 && n <= bytes.length - length;
         }
 
         void cut(int n) {
@@ -411,7 +410,6 @@ public final class SwarmDesk {
 
         void add(int v) {
             if (fits(1)) {
-                grow(length + 1);
                 bytes[length] = (byte) v;
                 length++;
             }
@@ -419,7 +417,6 @@ public final class SwarmDesk {
 
         void addNumber(int v) {
             if (fits(4)) {
-                grow(length + 4);
                 bytes[length] = (byte) (v >>> 24);
                 bytes[length + 1] = (byte) (v >>> 16);
                 bytes[length + 2] = (byte) (v >>> 8);
@@ -446,7 +443,6 @@ public final class SwarmDesk {
 
         void addPart(Row from, int begin, int count) {
             if (begin >= 0 && fits(count) && begin <= from.length - count) {
-                grow(length + count);
                 System.arraycopy(from.bytes, begin, bytes, length, count);
                 length += count;
             }
@@ -460,16 +456,9 @@ public final class SwarmDesk {
         }
 
         void becomeZeros(int n) {
-            if (n >= 0 && n <= most) {
-                grow(n);
+            if (n >= 0 && n <= bytes.length) {
                 Arrays.fill(bytes, 0, n, (byte) 0);
                 length = n;
-            }
-        }
-
-        private void grow(int n) {
-            if (n > bytes.length && n <= most) {
-                bytes = Arrays.copyOf(bytes, Math.min(most, Math.max(n, 2 * bytes.length + 16)));
             }
         }
     }
@@ -571,19 +560,17 @@ public final class SwarmDesk {
     private static final class Bencode {
         private Row text = new Row(0);
         /** Where the VALUE or KEY that begins at a place ends, so that looking up parses nothing twice. */
-        private int[] ends = new int[0];
+        private final int[] ends = new int[MOST_TAPE];
         int fault = NONE;
 
-        void open(Row source) {
+        /** The end of the VALUE with which that text begins; NONE if it has a fault, which is kept then. */
+        int open(Row source) {
             text = source;
             fault = NONE;
-            if (ends.length < MOST_TAPE) {
-                ends = new int[MOST_TAPE];
-            }
+            return skip(0, 0);
         }
 
-        /** The end of the VALUE that begins there; NONE if it has a fault, which is kept then. */
-        int skip(int at, int depth) {
+        private int skip(int at, int depth) {
             int first = text.at(at);
             if (isDigit(first)) {
                 return skipString(at);
@@ -846,8 +833,7 @@ public final class SwarmDesk {
 
         /** The FAULT of that text, or 0: then the draft is what it tells. */
         int read(Row source) {
-            bencode.open(source);
-            int end = bencode.skip(0, 0);
+            int end = bencode.open(source);
             faultPlace = end == NONE ? bencode.fault : end;
             if (end != source.size()) {
                 return 1;
@@ -1052,8 +1038,11 @@ public final class SwarmDesk {
             for (int k = 0; k < CLIENTS; k++) {
                 clients[k] = new Client();
             }
+            // Nobody is connected with itself: those places stay null, and linkOf never answers them.
             for (int k = 0; k < ALL * ALL; k++) {
-                links[k] = new Link(k / ALL, k % ALL);
+                if (k / ALL != k % ALL) {
+                    links[k] = new Link(k / ALL, k % ALL);
+                }
             }
         }
 
