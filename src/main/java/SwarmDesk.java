@@ -661,8 +661,8 @@ public final class SwarmDesk {
         }
 
         private boolean rises(int key, int next) {
-            int keyLength = textLength(key);
-            int nextLength = textLength(next);
+            int keyLength = decimal(key);
+            int nextLength = decimal(next);
             int keyBegin = endOf(key) - keyLength;
             int nextBegin = endOf(next) - nextLength;
             for (int i = 0; i < keyLength && i < nextLength; i++) {
