@@ -136,6 +136,14 @@ final class Check {
         return row;
     }
 
+    /** A look at all of the TAPE, which is empty behind it, as OUT has its SHA-1 then. */
+    static void tapeIs(String what, SwarmDesk desk, byte[] row) {
+        same(what + ": one byte more", desk.end(row.length + 1), SwarmDesk.NONE);
+        same(what + ": its length", desk.end(row.length), row.length);
+        desk.digest();
+        sameBytes(what + ": its SHA-1", out(desk, 20), sha(row));
+    }
+
     static int load(SwarmDesk desk, byte[] row) {
         tape(desk, row);
         return desk.load();
@@ -166,5 +174,29 @@ final class Check {
         say(desk, 0, hello(hash(desk)));
         same("act on a hello", desk.act(0, 4), 10);
         return desk;
+    }
+
+    /** The message with those bytes of a content. */
+    static byte[] block(byte[] content, int pieceLength, int p, int where, int count) {
+        int begin = p * pieceLength + where;
+        return message(7, number(p), number(where), Arrays.copyOfRange(content, begin, begin + count));
+    }
+
+    /**
+     * Client a, whom somebody outside greeted and who does not choke it, sends that many bytes to
+     * outside: answers to requests for parts of piece 0, of which it has 64 bytes.
+     */
+    static void fill(SwarmDesk desk, int a, int bytes) {
+        ByteArrayOutputStream all = new ByteArrayOutputStream();
+        int acts = 0;
+        for (int left = bytes; left > 0; acts++) {
+            int size = left <= 77 ? left : left < 77 + 14 ? 40 : 77;
+            all.writeBytes(request(0, 0, size - 13));
+            left -= size;
+        }
+        say(desk, a, all.toByteArray());
+        for (int n = 0; n < acts; n++) {
+            same("act on a request", desk.act(a, 4), 6);
+        }
     }
 }
