@@ -26,6 +26,7 @@ public final class SwarmEdgesTest {
         askingThreeOfThree();
         askingNothing();
         askingFewest();
+        askingWhatAllHave();
         askingOfSeveralTheLeast();
         askingNeitherCame();
         askingNorAskedOfAnybody();
@@ -499,6 +500,31 @@ public final class SwarmEdgesTest {
                 Check.sameBytes("PIECE 1, which outside alone has, and then 0", Check.hear(desk, a),
                     Check.join(Check.message(2), Check.request(1, 0, 64), Check.request(0, 0, 64)));
             }
+        }
+    }
+
+    /** Four others are the most who can have a PIECE. */
+    private static void askingWhatAllHave() {
+        for (int a = 0; a < 4; a++) {
+            SwarmDesk desk = Check.made(SwarmTalk.CONTENT, 64);
+            for (int k = 0; k < 4; k++) {
+                desk.client(k, k != a);
+            }
+            for (int b : SwarmTalk.othersOf(a)) {
+                desk.connect(a, b);
+                if (b != 4) {
+                    desk.act(b, a);
+                    Check.same("HELLO of " + b, desk.act(a, b), 10);
+                    Check.same("BITFIELD of " + b, desk.act(a, b), 5);
+                }
+            }
+            desk.hear(a);
+            Check.say(desk, a, Check.hello(Check.hash(desk)), Check.message(5, Check.bytes(0xE0)), Check.message(1));
+            for (int n = 0; n < 3; n++) {
+                desk.act(a, 4);
+            }
+            Check.sameBytes("what " + a + " ASKS of outside", Check.hear(desk, a), Check.join(Check.message(2),
+                Check.request(0, 0, 64), Check.request(1, 0, 64), Check.request(2, 0, 64)));
         }
     }
 

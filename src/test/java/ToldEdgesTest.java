@@ -22,6 +22,7 @@ public final class ToldEdgesTest {
         toldWhereNotConnected();
         toldOfLast();
         diskOfNoneSuch();
+        diskOf4096();
         diskOfShorterOne();
         countOfOneNotThere();
         countOfAnotherWhat();
@@ -279,6 +280,20 @@ public final class ToldEdgesTest {
             Check.same("the disk of " + k, desk.disk(k, 0), -1);
         }
         Check.same("without METAINFO", new SwarmDesk().disk(0, 0), -1);
+    }
+
+    private static void diskOf4096() {
+        byte[] most = Check.content(4096);
+        SwarmDesk desk = Check.made(most, 64);
+        desk.client(0, true);
+        desk.client(1, false);
+        Check.same("the last byte", desk.disk(0, 4095), most[4095] & 255);
+        Check.same("the last byte of nothing", desk.disk(1, 4095), 0);
+        Check.same("behind it", desk.disk(0, 4096), -1);
+        Check.same("behind it, of nothing", desk.disk(1, 4096), -1);
+        desk.connect(0, 1);
+        desk.pump(2000);
+        Check.same("the last byte that came", desk.disk(1, 4095), most[4095] & 255);
     }
 
     /** Disks have the LENGTH of METAINFO, whatever it was before. */
